@@ -29,6 +29,8 @@ final class EndorseTest {
         failedRunChangesNothing();
         otherResults();
         emptyRangesAreAlike();
+        theFirstAndTheLastKey();
+        runsLeaveNothingBehind();
         endorseRefuses();
         transactionTells();
         accessTells();
@@ -270,6 +272,45 @@ final class EndorseTest {
         check.due("an empty range", x.endorse(t, 1), 0);
         check.due("one range", x.transaction(t, 4), 1);
         check.due("an empty range again", x.endorse(t, 0), 0);
+    }
+
+    private static void theFirstAndTheLastKey() {
+        for (int key : new int[] {0, 15}) {
+            EndorsedLedger x = Ledgers.with(ARG, 0, PUSH, 7, PUT, 0);
+            Ledgers.add(x, 1, ARG, 0, GET, 0);
+            Ledgers.add(x, 2, ARG, 0, ARG, 0, SUM, 0);
+            Ledgers.add(x, 3, PUSH, 9, ARG, 0, GET, 0, PUT, 0);
+            Ledgers.must(x.policy(0, 0, 0));
+            int t = Ledgers.endorsed(x, 0, key, 0);
+            check.due("one key was written", x.transaction(t, 5), 1);
+            check.due("none was read", x.transaction(t, 3), 0);
+            Ledgers.order(x, t);
+            Ledgers.must(x.deliver(0) == 1);
+            for (int program = 1; program < 4; program++) {
+                int u = x.propose(program, key);
+                check.due("over nothing", x.endorse(u, 1), 0);
+                check.due("keys read", x.transaction(u, 3), program == 2 ? 0 : 1);
+                check.due("over a version", x.endorse(u, 0), 2);
+            }
+        }
+    }
+
+    private static void runsLeaveNothingBehind() {
+        EndorsedLedger x = Ledgers.with(ARG, 0, DUP, 0, DUP, 0, DUP, 0, DUP, 0, DUP, 0, DUP, 0, DUP, 0, GET, 0);
+        Ledgers.add(x, 1, PUSH, 0, SKIP, 12);
+        Ledgers.add(x, 2, PUSH, 5, DELETE, 0, PUSH, 3, DUP, 0, SUM, 0, DUP, 0, SUM, 0);
+        Ledgers.add(x, 3, ADD, 0);
+        for (int round = 0; round < 2; round++) {
+            for (int program = 0; program < 4; program++) {
+                int t = x.propose(program, round);
+                int fails = program == 3 ? 1 : 0;
+                check.due("the first run of program " + program, x.endorse(t, 0), fails);
+                check.due("the second run of program " + program, x.endorse(t, 1), fails);
+                check.due("keys read", x.transaction(t, 3), program == 0 ? 1 : 0);
+                check.due("ranges", x.transaction(t, 4), program == 2 ? 2 : 0);
+                check.due("keys written", x.transaction(t, 5), program == 2 ? 1 : 0);
+            }
+        }
     }
 
     private static void endorseRefuses() {
