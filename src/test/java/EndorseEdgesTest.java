@@ -333,7 +333,7 @@ final class EndorseEdgesTest {
     }
 
     private static void accessWritings() {
-        tell("3: 0 when the key was not written, 1 when a value was, 2 when nothing was (DELETE); 4: the value written, 0 if there is none", """
+        tell("3: 0 when the key was not written, 1 when a value was, 2 when nothing was; 4: the value written, 0 if none", """
             program 0: PUSH 0, PUSH MIN, PUT, PUSH 15, PUSH -1, PUT, PUSH 1, DELETE, PUSH 14, PUSH 0, PUT
             propose 0 0; endorse 0 0
             access 0 0 3 = 1; access 0 0 4 = MIN

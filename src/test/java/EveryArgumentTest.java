@@ -25,11 +25,11 @@ final class EveryArgumentTest {
 
     private static List<Call> past(int seed, int length) {
         RandomCalls random = new RandomCalls(seed);
-        EndorsedLedger ledger = new EndorsedLedger();
+        ModelLedger model = new ModelLedger();
         List<Call> past = new ArrayList<>();
         for (int i = 0; i < length; i++) {
-            Call call = random.next(ledger);
-            call.on(ledger);
+            Call call = random.next(model);
+            call.on(model);
             past.add(call);
         }
         return past;

@@ -102,7 +102,9 @@ final class PeerEdgesTest {
             power 3 off = 0; power 3 off = NONE; about 10 = 5; about 14 = 4
             power 3 on = 1; power 3 on = NONE; state 0 1 1 = 4; deliver 0 = 1
             """);
-        tell("it is so already, after tear()", chain(1) + "tear 2 = true; power 5 off = NONE; power 5 on = 1; power 5 on = NONE");
+        tell("it is so already, after tear()", chain(1) + """
+            tear 2 = true; power 5 off = NONE; power 5 on = 1; power 5 on = NONE
+            """);
     }
 
     private static void powerOfTheLeader() {
@@ -129,7 +131,9 @@ final class PeerEdgesTest {
             power 4 on = 1; about 11 = 5; about 15 = 4; state 1 1 0 = 17; state 1 1 1 = 4
             5 times: flag 1 # 0 = 0
             """);
-        tell("all 0 and empty at first: a new peer goes down and up", "power 3 off = 0; power 3 on = 0; about 10 = 0; about 14 = 0");
+        tell("all 0 and empty at first: a new peer goes down and up", """
+            power 3 off = 0; power 3 on = 0; about 10 = 0; about 14 = 0
+            """);
     }
 
     /** Each transaction adds 1 to key 3: over any other state than that before it, it would not be valid again. */
@@ -159,7 +163,8 @@ final class PeerEdgesTest {
             rows.append("state 2 1 1 = " + (height == 0 ? 0 : height - 1) + "\n");
             rows.append(height < 9 ? "deliver 2 = 1\n" : "deliver 2 = NONE\n");
         }
-        tell("it applies the blocks that it has stored from that height on; the answer is how many these are", rows.toString());
+        String sentence = "it applies the blocks that it has stored from that height on; the answer is how many these are";
+        tell(sentence, rows.toString());
         tell("the most that can be stored and not saved: 4, the last one torn", chain(8) + """
             3 times: deliver 0 = 1
             tear 0 = true; about 10 = 4; about 14 = 0

@@ -23,14 +23,14 @@ final class RandomCalls {
         setup = setup(random);
     }
 
-    /** The next call for a ledger that has had those before. */
-    Call next(EndorsedLedger ledger) {
+    /** The next call for a ledger that has had those before; the model of it tells which numbers fit. */
+    Call next(ModelLedger model) {
         made++;
         if (made <= setup.size()) {
             return setup.get(made - 1);
         }
         int which = choose(random, weights);
-        return new Call(which, arguments(random, which, ledger));
+        return new Call(which, arguments(random, which, model));
     }
 
     /** Calls of code and policy: programs made of pieces that mostly run well, and of anything else. */
@@ -112,9 +112,9 @@ final class RandomCalls {
         return random.nextInt(4) == 0 ? index(random, size) : index(random, Math.min(size, 3)) + Math.max(0, size - 3);
     }
 
-    private static int[] arguments(Random random, int which, EndorsedLedger ledger) {
-        int leader = random.nextInt(10) == 0 ? index(random, 3) : ledger.about(6);
-        int count = ledger.about(9);
+    private static int[] arguments(Random random, int which, ModelLedger model) {
+        int leader = random.nextInt(10) == 0 ? index(random, 3) : model.about(6);
+        int count = model.about(9);
         switch (which) {
             case 0:
                 return instruction(random);
@@ -140,11 +140,12 @@ final class RandomCalls {
                 return new int[] {index(random, 4), index(random, 16), index(random, 2)};
             case 14:
                 int peer = index(random, 4);
-                return new int[] {peer, late(random, peer >= 0 ? ledger.about(10 + peer) : 0), index(random, 3)};
+                return new int[] {peer, late(random, peer >= 0 ? model.about(10 + peer) : 0), index(random, 3)};
             case 15:
-                return new int[] {index(random, ledger.about(7)), random.nextInt(6) - 1};
+                return new int[] {index(random, model.about(7)), random.nextInt(6) - 1};
             case 16:
-                return new int[] {index(random, 3), index(random, ledger.about(3 + random.nextInt(3))), random.nextInt(6) - 1};
+                int length = model.about(3 + random.nextInt(3));
+                return new int[] {index(random, 3), index(random, length), random.nextInt(6) - 1};
             case 17:
                 return new int[] {index(random, 19)};
             default:

@@ -23,7 +23,7 @@ final class RandomRunsTest {
         EndorsedLedger ledger = new EndorsedLedger();
         ModelLedger model = new ModelLedger();
         for (int i = 0; i < CALLS && check.isClean(); i++) {
-            Call call = calls.next(ledger);
+            Call call = calls.next(model);
             int want = call.on(model);
             check.due("run " + seed + ", call " + i + ": " + call, call.on(ledger), want);
             count(call.which(), want);

@@ -19,10 +19,12 @@ final class RefusedCallsTest {
         RandomCalls calls = new RandomCalls(seed);
         EndorsedLedger ledger = new EndorsedLedger();
         EndorsedLedger other = new EndorsedLedger();
+        ModelLedger model = new ModelLedger();
         List<Call> all = new ArrayList<>();
         List<Call> taken = new ArrayList<>();
         for (int i = 0; i < CALLS; i++) {
-            Call call = calls.next(ledger);
+            Call call = calls.next(model);
+            call.on(model);
             int answer = call.on(ledger);
             all.add(call);
             if (!call.leavesAll(answer)) {

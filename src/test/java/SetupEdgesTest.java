@@ -248,7 +248,8 @@ final class SetupEdgesTest {
     private static void theTopOneIsThePolicy() {
         for (int set = 1; set < 16; set++) {
             isMet("its POLICY is the top one", "policy 0 1 0; policy 0 2 0", set, (set & 4) != 0);
-            isMet("its POLICY is the top one", "policy 0 1 0; policy 0 2 0; policy 0 3 0; policy 0 2 2", set, (set & 12) == 12);
+            String joined = "policy 0 1 0; policy 0 2 0; policy 0 3 0; policy 0 2 2";
+            isMet("its POLICY is the top one", joined, set, (set & 12) == 12);
         }
     }
 
